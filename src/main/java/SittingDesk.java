@@ -56,11 +56,10 @@ public final class SittingDesk {
         if (time < 0 || time > LAST_TIME || !isSort(sort)) {
             return OUTSIDE;
         }
-        if (clicks.size >= CLICK_ROOM) {
-            return FULL;
-        }
         int number = clicks.add(time, who, sort);
-        layRows();
+        if (number != FULL) {
+            layRows();
+        }
         return number;
     }
 
@@ -429,6 +428,7 @@ public final class SittingDesk {
             return c >= 0 && c < size;
         }
 
+        /** The new click's number, or FULL. */
         int add(int itsTime, int itsWho, int itsSort) {
             if (size >= CLICK_ROOM) {
                 return FULL;
@@ -565,7 +565,7 @@ public final class SittingDesk {
 
         /** The greatest k of which the set of the first k steps is among these; 0. */
         int depthOf(int sets) {
-            for (int k = size; k > 0; k--) {
+            for (int k = size; k > 0 && sets != 0; k--) {
                 if (hasFirst(k, sets)) {
                     return k;
                 }

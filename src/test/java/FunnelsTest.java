@@ -10,6 +10,7 @@ public final class FunnelsTest {
         nextWays(due);
         window(due);
         orderAndNoOrder(due);
+        allOrders(due);
         barOutsideTheSteps(due);
         barAmongTheSteps(due);
         likeTimes(due);
@@ -141,6 +142,23 @@ public final class FunnelsTest {
         due.is("three of two", x.ways(with(x, false, 100, -1, 1, 1, 1), 0), 0);
         due.is("reach two of three", x.reach(4, 0), 2);
         isWay(due, "two and two in order", x, with(x, true, 100, -1, 2, 1, 1, 2), 0, 4);
+    }
+
+    /** Four clicks of four sorts in each of the 24 orders. */
+    private static void allOrders(Due due) {
+        for (int code = 0; code < 256; code++) {
+            int[] sorts = {code & 3, code >> 2 & 3, code >> 4 & 3, code >> 6};
+            if ((1 << sorts[0] | 1 << sorts[1] | 1 << sorts[2] | 1 << sorts[3]) == 15) {
+                SittingDesk x = deskOf(sorts);
+                String row = "row " + sorts[0] + sorts[1] + sorts[2] + sorts[3];
+                isWay(due, row + " in any order", x, with(x, false, 30, -1, 0, 1, 2, 3), 0, 3);
+                boolean isInOrder = code == 0b11100100;
+                due.is(row + " in order", x.ways(with(x, true, 30, -1, 0, 1, 2, 3), 0), isInOrder ? 1 : 0);
+                int third = with(x, false, 30, -1, sorts[3], sorts[1], sorts[2], sorts[0]);
+                isWay(due, row + " with its ends turned", x, third, 0, 3);
+                due.is(row + " reach", x.reach(third, 0), 4);
+            }
+        }
     }
 
     private static void barOutsideTheSteps(Due due) {

@@ -77,6 +77,9 @@ public final class WeeksTest {
         due.is("joined", x.digest(), fold(21, 2, 0, 0, 1, 0, 0, 1, 1));
         x.join(23, 0);
         due.is("a joined mark has no place in it", x.digest(), fold(20, 2, 0, 0, 1, 0, 0, 1, 1));
+        x.click(20, 0, 1);
+        due.is("two in one sitting", x.digest(), fold(20, 2, 0, 3, 0, 0, 1, 0, 0, 1, 1));
+        x.strike(3, true);
         x.strike(2, true);
         due.is("struck", x.digest(), fold(20, -1, 1, 0, 0, 1, 1));
         x.rule(3, 1);
