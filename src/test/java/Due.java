@@ -3,6 +3,7 @@ final class Due {
     static final int NONE = -1, UNKNOWN = -1001, OUTSIDE = -1002, NOT = -1003, FULL = -1004;
 
     private final String test;
+    private String sentence = "";
     private int asked = 0;
     private int wrong = 0;
 
@@ -10,11 +11,24 @@ final class Due {
         this.test = test;
     }
 
+    /** The document's words that the answers from here on are due to. */
+    void sentence(String words) {
+        sentence = " [" + words + "]";
+    }
+
     void is(String call, int got, int want) {
         asked++;
         if (got != want) {
             wrong++;
-            System.out.println(test + ": " + call + " answered " + got + ", due is " + want);
+            System.out.println(test + sentence + ": " + call + " answered " + got + ", due is " + want);
+        }
+    }
+
+    /** The answers of as many calls, the first with 0, the next with 1, and so on. */
+    void are(String call, int[] got, int... want) {
+        is(call + ", how many answers", got.length, want.length);
+        for (int i = 0; i < got.length && i < want.length; i++) {
+            is(call + " " + i, got[i], want[i]);
         }
     }
 

@@ -22,23 +22,6 @@ public final class FunnelsTest {
         due.end();
     }
 
-    private static int with(SittingDesk x, boolean ordered, int window, int bar, int... steps) {
-        int f = x.funnel(ordered, window, bar);
-        for (int sort : steps) {
-            x.step(f, sort);
-        }
-        return f;
-    }
-
-    /** Clicks of who 0, ten minutes apart from 0 on. */
-    private static SittingDesk deskOf(int... sorts) {
-        SittingDesk x = new SittingDesk();
-        for (int i = 0; i < sorts.length; i++) {
-            x.click(10 * i, 0, sorts[i]);
-        }
-        return x;
-    }
-
     private static void isWay(Due due, String what, SittingDesk x, int f, int first, int last) {
         due.is(what + ": first", x.way(f, 0, 0, 0), first);
         due.is(what + ": last", x.way(f, 0, 0, 1), last);
@@ -78,7 +61,7 @@ public final class FunnelsTest {
     }
 
     private static void ways(Due due) {
-        SittingDesk x = deskOf(0, 1, 0, 1);
+        SittingDesk x = Desks.ofSorts(0, 1, 0, 1);
         x.click(0, 13, 0);
         x.click(5, 13, 1);
         due.is("no funnel", x.ways(0, 0), Due.UNKNOWN);
@@ -102,10 +85,10 @@ public final class FunnelsTest {
     }
 
     private static void nextWays(Due due) {
-        SittingDesk x = deskOf(0, 0, 0, 0, 0);
-        due.is("window 10", x.ways(with(x, true, 10, -1, 0), 0), 3);
-        due.is("window 9", x.ways(with(x, true, 9, -1, 0), 0), 5);
-        due.is("window 20", x.ways(with(x, true, 20, -1, 0), 0), 2);
+        SittingDesk x = Desks.ofSorts(0, 0, 0, 0, 0);
+        due.is("window 10", x.ways(Desks.with(x, true, 10, -1, 0), 0), 3);
+        due.is("window 9", x.ways(Desks.with(x, true, 9, -1, 0), 0), 5);
+        due.is("window 20", x.ways(Desks.with(x, true, 20, -1, 0), 0), 2);
         due.is("way 1 of window 20", x.way(2, 0, 1, 0), 3);
         // The next way may begin ahead of the last click of the one ahead.
         SittingDesk y = new SittingDesk();
@@ -113,35 +96,35 @@ public final class FunnelsTest {
         y.click(11, 0, 0);
         y.click(10, 0, 1);
         y.click(12, 0, 1);
-        due.is("two", y.ways(with(y, true, 10, -1, 0, 1), 0), 2);
+        due.is("two", y.ways(Desks.with(y, true, 10, -1, 0, 1), 0), 2);
         due.is("second", y.way(0, 0, 1, 0), 1);
         due.is("second", y.way(0, 0, 1, 1), 3);
     }
 
     private static void window(Due due) {
-        SittingDesk x = deskOf(0, 1);
-        due.is("WINDOW at most", x.ways(with(x, true, 10, -1, 0, 1), 0), 1);
-        due.is("above WINDOW", x.ways(with(x, true, 9, -1, 0, 1), 0), 0);
+        SittingDesk x = Desks.ofSorts(0, 1);
+        due.is("WINDOW at most", x.ways(Desks.with(x, true, 10, -1, 0, 1), 0), 1);
+        due.is("above WINDOW", x.ways(Desks.with(x, true, 9, -1, 0, 1), 0), 0);
         due.is("reach above WINDOW", x.reach(1, 0), 1);
-        due.is("in any order, above", x.ways(with(x, false, 9, -1, 1, 0), 0), 0);
-        due.is("in any order, at most", x.ways(with(x, false, 10, -1, 1, 0), 0), 1);
+        due.is("in any order, above", x.ways(Desks.with(x, false, 9, -1, 1, 0), 0), 0);
+        due.is("in any order, at most", x.ways(Desks.with(x, false, 10, -1, 1, 0), 0), 1);
         SittingDesk y = new SittingDesk();
         y.click(0, 0, 0);
         y.click(100000, 0, 1);
         y.click(200000, 0, 0);
-        due.is("greatest WINDOW", y.ways(with(y, true, 100000, -1, 0), 0), 2);
-        due.is("greatest WINDOW", y.reach(with(y, false, 100000, -1, 1, 0, 0), 0), 2);
+        due.is("greatest WINDOW", y.ways(Desks.with(y, true, 100000, -1, 0), 0), 2);
+        due.is("greatest WINDOW", y.reach(Desks.with(y, false, 100000, -1, 1, 0, 0), 0), 2);
     }
 
     private static void orderAndNoOrder(Due due) {
-        SittingDesk x = deskOf(2, 1, 0, 1, 2);
-        isWay(due, "in order", x, with(x, true, 100, -1, 0, 1, 2), 2, 4);
-        isWay(due, "in any order", x, with(x, false, 100, -1, 0, 1, 2), 0, 2);
-        isWay(due, "each another one", x, with(x, false, 100, -1, 1, 1), 1, 3);
-        isWay(due, "two and two", x, with(x, false, 100, -1, 1, 2, 1, 2), 0, 4);
-        due.is("three of two", x.ways(with(x, false, 100, -1, 1, 1, 1), 0), 0);
+        SittingDesk x = Desks.ofSorts(2, 1, 0, 1, 2);
+        isWay(due, "in order", x, Desks.with(x, true, 100, -1, 0, 1, 2), 2, 4);
+        isWay(due, "in any order", x, Desks.with(x, false, 100, -1, 0, 1, 2), 0, 2);
+        isWay(due, "each another one", x, Desks.with(x, false, 100, -1, 1, 1), 1, 3);
+        isWay(due, "two and two", x, Desks.with(x, false, 100, -1, 1, 2, 1, 2), 0, 4);
+        due.is("three of two", x.ways(Desks.with(x, false, 100, -1, 1, 1, 1), 0), 0);
         due.is("reach two of three", x.reach(4, 0), 2);
-        isWay(due, "two and two in order", x, with(x, true, 100, -1, 2, 1, 1, 2), 0, 4);
+        isWay(due, "two and two in order", x, Desks.with(x, true, 100, -1, 2, 1, 1, 2), 0, 4);
     }
 
     /** Four clicks of four sorts in each of the 24 orders. */
@@ -149,12 +132,12 @@ public final class FunnelsTest {
         for (int code = 0; code < 256; code++) {
             int[] sorts = {code & 3, code >> 2 & 3, code >> 4 & 3, code >> 6};
             if ((1 << sorts[0] | 1 << sorts[1] | 1 << sorts[2] | 1 << sorts[3]) == 15) {
-                SittingDesk x = deskOf(sorts);
+                SittingDesk x = Desks.ofSorts(sorts);
                 String row = "row " + sorts[0] + sorts[1] + sorts[2] + sorts[3];
-                isWay(due, row + " in any order", x, with(x, false, 30, -1, 0, 1, 2, 3), 0, 3);
+                isWay(due, row + " in any order", x, Desks.with(x, false, 30, -1, 0, 1, 2, 3), 0, 3);
                 boolean isInOrder = code == 0b11100100;
-                due.is(row + " in order", x.ways(with(x, true, 30, -1, 0, 1, 2, 3), 0), isInOrder ? 1 : 0);
-                int third = with(x, false, 30, -1, sorts[3], sorts[1], sorts[2], sorts[0]);
+                due.is(row + " in order", x.ways(Desks.with(x, true, 30, -1, 0, 1, 2, 3), 0), isInOrder ? 1 : 0);
+                int third = Desks.with(x, false, 30, -1, sorts[3], sorts[1], sorts[2], sorts[0]);
                 isWay(due, row + " with its ends turned", x, third, 0, 3);
                 due.is(row + " reach", x.reach(third, 0), 4);
             }
@@ -162,30 +145,30 @@ public final class FunnelsTest {
     }
 
     private static void barOutsideTheSteps(Due due) {
-        SittingDesk x = deskOf(3, 0, 3, 1, 0, 1, 3);
-        isWay(due, "barred, then not", x, with(x, true, 100, 3, 0, 1), 4, 5);
-        isWay(due, "no bar", x, with(x, true, 100, -1, 0, 1), 1, 3);
-        isWay(due, "in any order", x, with(x, false, 100, 3, 0, 1), 3, 4);
-        isWay(due, "one step is never barred", x, with(x, false, 100, 3, 1), 3, 3);
-        due.is("all barred", x.ways(with(x, true, 100, 3, 0, 0, 0), 0), 0);
+        SittingDesk x = Desks.ofSorts(3, 0, 3, 1, 0, 1, 3);
+        isWay(due, "barred, then not", x, Desks.with(x, true, 100, 3, 0, 1), 4, 5);
+        isWay(due, "no bar", x, Desks.with(x, true, 100, -1, 0, 1), 1, 3);
+        isWay(due, "in any order", x, Desks.with(x, false, 100, 3, 0, 1), 3, 4);
+        isWay(due, "one step is never barred", x, Desks.with(x, false, 100, 3, 1), 3, 3);
+        due.is("all barred", x.ways(Desks.with(x, true, 100, 3, 0, 0, 0), 0), 0);
         due.is("reach with the bar", x.reach(4, 0), 1);
     }
 
     private static void barAmongTheSteps(Due due) {
-        SittingDesk x = deskOf(0, 1, 1, 2);
-        due.is("one bar left over", x.ways(with(x, true, 100, 1, 0, 1, 2), 0), 0);
+        SittingDesk x = Desks.ofSorts(0, 1, 1, 2);
+        due.is("one bar left over", x.ways(Desks.with(x, true, 100, 1, 0, 1, 2), 0), 0);
         due.is("but reach two", x.reach(0, 0), 2);
-        isWay(due, "both are steps", x, with(x, true, 100, 1, 0, 1, 1, 2), 0, 3);
-        isWay(due, "the bar at an end", x, with(x, true, 100, 1, 1, 2), 2, 3);
-        isWay(due, "in any order, from the bar", x, with(x, false, 100, 1, 2, 1), 2, 3);
-        SittingDesk y = deskOf(1, 0, 1, 2, 1);
-        isWay(due, "bars at both ends", y, with(y, false, 100, 1, 1, 1), 0, 2);
-        isWay(due, "bar first, bar between", y, with(y, false, 100, 1, 2, 1, 1), 0, 3);
-        isWay(due, "the bar must be taken", y, with(y, false, 100, 1, 2, 0, 1), 1, 3);
+        isWay(due, "both are steps", x, Desks.with(x, true, 100, 1, 0, 1, 1, 2), 0, 3);
+        isWay(due, "the bar at an end", x, Desks.with(x, true, 100, 1, 1, 2), 2, 3);
+        isWay(due, "in any order, from the bar", x, Desks.with(x, false, 100, 1, 2, 1), 2, 3);
+        SittingDesk y = Desks.ofSorts(1, 0, 1, 2, 1);
+        isWay(due, "bars at both ends", y, Desks.with(y, false, 100, 1, 1, 1), 0, 2);
+        isWay(due, "bar first, bar between", y, Desks.with(y, false, 100, 1, 2, 1, 1), 0, 3);
+        isWay(due, "the bar must be taken", y, Desks.with(y, false, 100, 1, 2, 0, 1), 1, 3);
         // The click of sort 0 that is taken decides whether the bar in front of it is between.
-        SittingDesk z = deskOf(0, 0, 1, 0, 2);
-        isWay(due, "a later click for a step", z, with(z, true, 100, 1, 0, 1, 0, 2), 0, 4);
-        isWay(due, "0 0 1 2", z, with(z, true, 100, 1, 0, 0, 1, 2), 0, 4);
+        SittingDesk z = Desks.ofSorts(0, 0, 1, 0, 2);
+        isWay(due, "a later click for a step", z, Desks.with(z, true, 100, 1, 0, 1, 0, 2), 0, 4);
+        isWay(due, "0 0 1 2", z, Desks.with(z, true, 100, 1, 0, 0, 1, 2), 0, 4);
     }
 
     private static void likeTimes(Due due) {
@@ -193,16 +176,16 @@ public final class FunnelsTest {
         x.click(5, 0, 0);
         x.click(5, 0, 3);
         x.click(5, 0, 1);
-        due.is("the row tells what is between", x.ways(with(x, true, 0, 3, 0, 1), 0), 0);
-        isWay(due, "the row tells the order", x, with(x, true, 0, -1, 0, 3, 1), 0, 2);
-        due.is("not the other way", x.ways(with(x, true, 0, -1, 1, 0), 0), 0);
-        isWay(due, "in any order", x, with(x, false, 0, -1, 1, 0), 0, 2);
-        due.is("one way a time", x.ways(with(x, false, 0, -1, 3), 0), 1);
+        due.is("the row tells what is between", x.ways(Desks.with(x, true, 0, 3, 0, 1), 0), 0);
+        isWay(due, "the row tells the order", x, Desks.with(x, true, 0, -1, 0, 3, 1), 0, 2);
+        due.is("not the other way", x.ways(Desks.with(x, true, 0, -1, 1, 0), 0), 0);
+        isWay(due, "in any order", x, Desks.with(x, false, 0, -1, 1, 0), 0, 2);
+        due.is("one way a time", x.ways(Desks.with(x, false, 0, -1, 3), 0), 1);
     }
 
     private static void way(Due due) {
-        SittingDesk x = deskOf(0, 1, 1);
-        with(x, true, 50, -1, 0, 1);
+        SittingDesk x = Desks.ofSorts(0, 1, 1);
+        Desks.with(x, true, 50, -1, 0, 1);
         isWay(due, "the first end", x, 0, 0, 1);
         due.is("no way 1", x.way(0, 0, 1, 0), Due.UNKNOWN);
         due.is("no way -1", x.way(0, 0, -1, 0), Due.UNKNOWN);
@@ -221,7 +204,7 @@ public final class FunnelsTest {
     }
 
     private static void reach(Due due) {
-        SittingDesk x = deskOf(0, 1, 2, 3);
+        SittingDesk x = Desks.ofSorts(0, 1, 2, 3);
         due.is("no funnel", x.reach(0, 0), Due.UNKNOWN);
         x.funnel(true, 100, -1);
         due.is("without steps", x.reach(0, 0), 0);
@@ -233,15 +216,15 @@ public final class FunnelsTest {
         due.is("not of all", x.reach(0, -1), Due.UNKNOWN);
         due.is("who above", x.reach(0, 24), Due.UNKNOWN);
         due.is("funnel above", x.reach(1, 0), Due.UNKNOWN);
-        due.is("first step lacks", x.reach(with(x, true, 100, -1, 4, 0), 0), 0);
-        due.is("any order, first step lacks", x.reach(with(x, false, 100, -1, 4, 0), 0), 0);
-        due.is("back in order", x.reach(with(x, true, 100, -1, 3, 2, 1), 0), 1);
-        due.is("back in any order", x.reach(with(x, false, 100, -1, 3, 2, 1), 0), 3);
+        due.is("first step lacks", x.reach(Desks.with(x, true, 100, -1, 4, 0), 0), 0);
+        due.is("any order, first step lacks", x.reach(Desks.with(x, false, 100, -1, 4, 0), 0), 0);
+        due.is("back in order", x.reach(Desks.with(x, true, 100, -1, 3, 2, 1), 0), 1);
+        due.is("back in any order", x.reach(Desks.with(x, false, 100, -1, 3, 2, 1), 0), 3);
     }
 
     private static void reachAcrossAHole(Due due) {
-        SittingDesk x = deskOf(0, 3, 1);
-        int f = with(x, false, 100, 3, 0, 1);
+        SittingDesk x = Desks.ofSorts(0, 3, 1);
+        int f = Desks.with(x, false, 100, 3, 0, 1);
         due.is("two steps: barred", x.reach(f, 0), 1);
         x.step(f, 3);
         due.is("three steps: the bar is taken", x.reach(f, 0), 3);
@@ -252,7 +235,7 @@ public final class FunnelsTest {
     }
 
     private static void reached(Due due) {
-        SittingDesk x = deskOf(0, 1);
+        SittingDesk x = Desks.ofSorts(0, 1);
         x.click(0, 1, 0);
         x.click(0, 14, 5);
         x.click(0, 2, 0);
@@ -275,8 +258,8 @@ public final class FunnelsTest {
     }
 
     private static void changes(Due due) {
-        SittingDesk x = deskOf(0, 5, 1);
-        int f = with(x, true, 100, 5, 0, 1);
+        SittingDesk x = Desks.ofSorts(0, 5, 1);
+        int f = Desks.with(x, true, 100, 5, 0, 1);
         due.is("barred", x.ways(f, 0), 0);
         x.strike(1, true);
         due.is("the bar is struck", x.ways(f, 0), 1);
