@@ -1,3 +1,5 @@
+import java.util.Arrays;
+
 /** "Terms", part 3, and promises 11 to 16: each sentence that names an edge. */
 public final class FunnelEdgesTest {
     private final Due due = new Due("FunnelEdgesTest");
@@ -23,6 +25,7 @@ public final class FunnelEdgesTest {
     private void ways() {
         eachAnotherOne();
         clickOfTheSortOfItsStep();
+        everyRowOfSeven();
         orderedBehindInTheRow();
         notOrdered();
         windowNought();
@@ -171,6 +174,45 @@ public final class FunnelEdgesTest {
         }
         SittingDesk y = Desks.ofSorts(0, 1, 3);
         areWays("a sort that lacks", y, Desks.with(y, false, 100, -1, 0, 1, 2));
+    }
+
+    /** Without bar and within the window, the sorts of a row alone tell how far it reaches. */
+    private void everyRowOfSeven() {
+        due.sentence("k CLICKS of its ROW, each another one, CLICK i of the SORT of STEP i");
+        int[] steps = {0, 1, 2, 3};
+        int[] doubled = {1, 0, 1, 0};
+        for (int code = 0; code < 1 << 14; code++) {
+            int[] sorts = new int[7];
+            for (int i = 0; i < 7; i++) {
+                sorts[i] = code >> 2 * i & 3;
+            }
+            SittingDesk x = Desks.ofSorts(sorts);
+            String row = "row " + Arrays.toString(sorts);
+            due.is(row + " in order", x.reach(Desks.with(x, true, 60, -1, steps), 0), inOrder(sorts, steps));
+            due.is(row + " in any", x.reach(Desks.with(x, false, 60, -1, steps), 0), inAny(sorts, steps));
+            due.is(row + " doubled", x.reach(Desks.with(x, false, 60, -1, doubled), 0), inAny(sorts, doubled));
+        }
+    }
+
+    private static int inOrder(int[] sorts, int[] steps) {
+        int done = 0;
+        for (int sort : sorts) {
+            done += done < steps.length && steps[done] == sort ? 1 : 0;
+        }
+        return done;
+    }
+
+    private static int inAny(int[] sorts, int[] steps) {
+        int[] left = new int[8];
+        for (int sort : sorts) {
+            left[sort]++;
+        }
+        int done = 0;
+        while (done < steps.length && left[steps[done]] > 0) {
+            left[steps[done]]--;
+            done++;
+        }
+        return done;
     }
 
     private void orderedBehindInTheRow() {
